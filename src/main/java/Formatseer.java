@@ -1616,11 +1616,6 @@ public final class Formatseer {
         private void forgetItems() {
             sources.fill(NOT_FROM);
             signs.empty();
-            starts.empty();
-            values.empty();
-            registers.empty();
-            groups.empty();
-            ends.empty();
             open.empty();
             place = 0;
             registerCount = 0;
@@ -1630,11 +1625,8 @@ public final class Formatseer {
         private boolean takesItem() {
             int node = signs.size();
             signs.push(text.at(place));
-            starts.push(place);
-            values.push(0);
-            registers.push(0);
-            groups.push(0);
-            ends.push(node + 1);
+            starts.put(node, place);
+            ends.put(node, node + 1);
             place++;
             switch (signs.at(node)) {
                 case 'z': case 's': case 'x': case 'h':

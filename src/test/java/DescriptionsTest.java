@@ -8,6 +8,7 @@ public final class DescriptionsTest {
         describing();
         editing();
         finding();
+        findingByCosts();
         signs();
         reading();
         groups();
@@ -52,11 +53,14 @@ public final class DescriptionsTest {
             "nv00", "v0n", "n0", "h1", "z0", "nr0", "nr0()", "nr0h", "nr0(h", "nr0h)", "nr(h)", "nr1(h)", "nr00(h)",
             "r0(n)", "nr0(v1)", "nr0(v1n)", "ni0(h)", "ni0=(h)", "ni0=256(h)", "ni0=1()", "ni0=1h", "ni0=0001(h)",
             "i0=1(n)", "ni=1(h)", "()", "(h)", "h)", ")", "(", "=", "1", "hh)", "nr0(h))", "nr0((h))",
-            "nr0(r0(r0(r0(r0(h)))))", "nr0(i0=1(r0(i0=2(r0(h)))))", "nr0(r0(r0(r0(h))))r0()", "c=1"};
+            "nr0hh)", "nr0=h)", "ni0h1(h)", "ni0(1(h)", "ni0=1hh)", "nr0(r0(r0(r0(r0(h)))))", "nr0(i0=1(r0(i0=2(r0(h)))))", "nr0(r0(r0(r0(h))))r0()", "c=1"};
         for (String text : bad) {
             Formatseer seer = new Formatseer();
             Check.dueThrow("26: " + text, IllegalArgumentException.class, () -> Check.describe(seer, text));
             Check.due("26: the buffer stays", text.length(), seer::clear);
+            Check.describe(seer, "ni0=1(r0(hhhhhhhhhhhhhh))");
+            Check.dueThrow("26: behind a longer one: " + text, IllegalArgumentException.class,
+                    () -> Check.describe(seer, text));
         }
     }
 
@@ -126,6 +130,9 @@ public final class DescriptionsTest {
         Check.due("28: s if both can be", "nv0s", () -> found(row(1, 4, 5), row(2, 4, 8, 14)));
         Check.due("28: only the relation from the place 0", "throws " + NoSuchElementException.class.getName(),
                 () -> thrownBy(row(1, 5, 5), row(2, 5, 6, 11)));
+        Check.due("28: numbers have no 0 ahead", "c99c100c9c0c10", () -> found(row(99, 100, 9, 0, 10)));
+        Check.due("28: not for a length of two bytes", "throws " + NoSuchElementException.class.getName(),
+                () -> thrownBy(row(0, 4, 9, 8, 7), row(0, 3, 9, 8)));
         Check.due("28: ends with 0", "z", () -> found(row(5, 6, 7, 0), row(5, 0)));
         Check.due("28: ends with 0, one sample", "z", () -> found(row(72, 105, 0)));
         Check.due("28: as cheap, the one that is told first", "c1c1", () -> found(row(1, 1)));
@@ -163,6 +170,24 @@ public final class DescriptionsTest {
         Check.due("28: without those that are set aside", "c7c1", () -> Check.textOf(aside, 0));
     }
 
+    private static void findingByCosts() {
+        Check.due("28: 202 and 202, the one that is told first", "c1c2c3c4c5nv0", () -> found(
+                row(1, 2, 3, 4, 5, 2, 9, 0), row(1, 2, 3, 4, 5, 3, 9, 8, 0), row(1, 2, 3, 4, 5, 1, 0)));
+        Check.due("28: 182 and 178", "z", () -> found(
+                row(1, 2, 3, 4, 2, 9, 0), row(1, 2, 3, 4, 3, 9, 8, 0), row(1, 2, 3, 4, 1, 0)));
+        Check.due("28: 152 and 154", "c1c2nv0s", () -> found(
+                row(1, 2, 2, 250, 1, 0), row(1, 2, 1, 252, 0), row(1, 2, 3, 100, 100, 50, 0)));
+        Check.due("28: 132 and 130", "z", () -> found(
+                row(1, 2, 250, 3, 0), row(1, 1, 254, 0), row(1, 3, 100, 100, 52, 0)));
+        Check.due("28: 296 and 298", "c1c2c3c4c5c6c7c8hnv0", () -> found(row(1, 2, 3, 4, 5, 6, 7, 8, 50, 2, 9, 0),
+                row(1, 2, 3, 4, 5, 6, 7, 8, 60, 3, 9, 9, 0), row(1, 2, 3, 4, 5, 6, 7, 8, 50, 1, 0)));
+        Check.due("28: 276 and 274", "z", () -> found(row(1, 2, 3, 4, 5, 6, 7, 50, 2, 9, 0),
+                row(1, 2, 3, 4, 5, 6, 7, 60, 3, 9, 9, 0), row(1, 2, 3, 4, 5, 6, 7, 50, 1, 0)));
+        Check.due("28: the second length is cheaper", "hhc1c2c3nv0", () -> found(row(50, 5, 1, 2, 3, 1, 9),
+                row(60, 6, 1, 2, 3, 2, 9, 9), row(50, 4, 1, 2, 3, 0)));
+        Check.due("28: the first length is as cheap", "nv0", () -> found(row(2, 1, 9), row(3, 2, 9, 9)));
+    }
+
     private static String thrownBy(int[]... rows) {
         try {
             return found(rows);
@@ -193,6 +218,7 @@ public final class DescriptionsTest {
         Check.due("30: c", -1, () -> read("c7", 7));
         Check.due("30: another byte", 0, () -> read("c7", 8));
         Check.due("30: no byte", 0, () -> read("c7"));
+        Check.due("30: the first byte that is not as told", 0, () -> read("c7h", 8));
         Check.due("30: bytes are left", 1, () -> read("c7", 7, 7, 7));
         Check.due("30: b", -1, () -> read("b3", 7, 8, 9));
         Check.due("30: not enough for b", 2, () -> read("b3", 7, 8));
@@ -230,6 +256,13 @@ public final class DescriptionsTest {
         Check.due("30: i", -1, () -> read("ni0=2(hh)h", 2, 1, 1, 1));
         Check.due("30: not i", -1, () -> read("ni0=2(hh)h", 3, 1));
         Check.due("30: i by more than a byte", -1, () -> read("Ni0=255(c5)", 0, 255, 5));
+        Check.due("30: N of 256 is not 255", -1, () -> read("Ni0=255(h)", 1, 0));
+        Formatseer twice = new Formatseer();
+        Check.describe(twice, "ni0=9(n)v1h");
+        Check.sample(twice, 9, 2, 5, 5, 5);
+        Check.sample(twice, 8, 5);
+        Check.due("30: a register is set", -1, () -> twice.read(0, 0));
+        Check.due("30: not by a reading before", -1, () -> twice.read(0, 1));
         Check.due("30: four in one another", -1, () -> read("nr0(r0(r0(r0(c3))))", full(2, 3, 16)));
         Formatseer seer = new Formatseer();
         Check.describe(seer, "nnr0(v1)");
@@ -405,6 +438,16 @@ public final class DescriptionsTest {
         Check.due("38: as often as begun, not as the register is", 1, () -> covered("nnr0(v1)",
                 row(3, 0), row(1, 0), row(1, 2, 7, 7)));
         Check.due("38: each item in the text", 2, () -> covered("nr0(h)r0(h)", row(1, 5, 5), row(0), row(1, 6, 6)));
+        Formatseer edited = new Formatseer();
+        Check.describe(edited, "h");
+        for (int turn = 0; turn < 30; turn++) {
+            Check.type(edited, "nr0(h)ni1=0(h)");
+            edited.edit(0);
+        }
+        for (int[] bytes : new int[][] {{0, 1}, {1, 9, 0, 9}, {0, 0, 9}, {1, 9, 1}}) {
+            Check.sample(edited, bytes);
+        }
+        Check.due("38: edited often", 2, () -> edited.cover(0));
         Formatseer seer = new Formatseer();
         Check.describe(seer, "nr0(h)");
         Check.sample(seer, 0);

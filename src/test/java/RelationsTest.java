@@ -44,6 +44,8 @@ public final class RelationsTest {
         Check.due("16: not if lengths are alike", "", () -> told(row(2, 8, 9), row(2, 9, 9)));
         Check.due("17: two bytes, the greater one first", "l0,2,0 l1,1,0 k1,0,0",
                 () -> told(row(0, 4, 9, 1), row(0, 3, 9)));
+        Check.due("17: two bytes at the end of the shortest one", "l0,2,0 l1,1,0 k1,0,0",
+                () -> told(row(0, 2), row(0, 3, 9)));
         Check.due("17: two bytes, the lesser one first", "l0,1,1 l0,3,1 k0,0,0",
                 () -> told(row(4, 0, 9, 7, 8), row(3, 0, 9, 7)));
         Check.due("17: the rest is not below 0", "k0,0,0", () -> told(row(6, 9, 9, 8, 8), row(5, 9, 9, 8)));
@@ -55,6 +57,7 @@ public final class RelationsTest {
         Check.due("16: modulo 256", "+0,0,0", () -> told(row(200, 100, 44), row(201, 100, 45)));
         Check.due("16: exclusive or", "^0,0,0", () -> told(row(7, 3, 4), row(6, 3, 5)));
         Check.due("16: makes the sum 0", "-0,0,0", () -> told(row(7, 3, 246), row(9, 3, 244)));
+        Check.due("16: makes the sum 0, an odd one", "-0,0,0", () -> told(row(7, 4, 245), row(9, 4, 243)));
         Check.due("16: each place is one, in their order", "+1,0,0 ^1,0,0",
                 () -> told(row(1, 20, 20), row(4, 20, 20)));
         Check.due("16: at least one byte ahead", "", () -> told(row(0), row(0)));
@@ -76,6 +79,11 @@ public final class RelationsTest {
                 () -> told(row(1, 99, 98, 97, 96), row(2, 99, 98, 97, 96, 95, 94, 93)));
         Check.due("17: width 8, rest 3", "k0,0,0 r0,8,3", () -> told(
                 row(0, 99, 98, 97), row(1, 99, 98, 97, 96, 95, 94, 93, 92, 91, 90, 89)));
+        Check.due("17: width 2, rest 0", "k0,0,0 r0,2,0", () -> told(row(1, 99, 98), row(2, 99, 98, 97, 96)));
+        Check.due("17: behind another place", "k1,0,0 r1,2,1",
+                () -> told(row(99, 1, 98, 97, 96), row(99, 2, 98, 97, 96, 95, 94)));
+        Check.due("17: width 9 is none", "k0,0,0",
+                () -> told(row(0, 99), row(1, 99, 98, 97, 96, 95, 94, 93, 92, 91, 90)));
         Check.due("17: rest 4 is none", "k0,0,0", () -> told(
                 row(1, 99, 98, 97, 96, 95, 94), row(2, 99, 98, 97, 96, 95, 94, 93, 92)));
         Check.due("17: width 1 is a length", "l0,1,1 k0,0,0", () -> told(row(1, 99), row(2, 99, 98)));
@@ -152,6 +160,13 @@ public final class RelationsTest {
         Check.dueThrow("21: none", NoSuchElementException.class, () -> seer.mask(3));
         Check.dueThrow("21: 127 and 128", NoSuchElementException.class, () -> seer.mask(9));
         Check.dueThrow("21: no sample", IndexOutOfBoundsException.class, () -> seer.mask(10));
+        int[] strict = new int[33];
+        for (int index = 0; index < 31; index++) {
+            strict[index] = 255 - 96 - index;
+        }
+        strict[31] = 255 - 32;
+        strict[32] = 255 - 64;
+        Check.due("21: the greatest", 255, () -> seerOf(strict).mask(0));
         Check.due("22: counts", 258, () -> seer.unpacked(4));
         Check.due("22: no bytes", 0, () -> seer.unpacked(1));
         Check.dueThrow("22: no pair", NoSuchElementException.class, () -> seer.unpacked(5));

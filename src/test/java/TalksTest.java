@@ -148,6 +148,7 @@ public final class TalksTest {
         Check.due("46: behind 1:2 of the same session", true, () -> seer.canFollow(0, 1, 0, 255));
         Check.due("46: not behind two symbols", false, () -> seer.canFollow(0, 2, 0, 255));
         Check.due("46: the other side", false, () -> seer.canFollow(0, 1, 1, 255));
+        Check.due("46: none of the other side is no 255", false, () -> seer.canFollow(0, 1, 1, -1));
         Check.due("46: at the beginning", true, () -> seer.canFollow(1, 3, 0, 1));
         Check.due("46: not at the beginning", false, () -> seer.canFollow(1, 3, 0, 255));
         seer.send(1, 0, 2);
