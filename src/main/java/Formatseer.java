@@ -728,8 +728,7 @@ public final class Formatseer {
     private boolean areDistancesEven() {
         for (int first = 0; first < samples.size(); first++) {
             for (int second = 0; second < first; second++) {
-                int back = comparer.distance(samples.bytesOf(first), samples.bytesOf(second));
-                if (samples.distanceOf(second, first) != back) {
+                if (!samples.isEven(second, first)) {
                     return false;
                 }
             }
@@ -849,7 +848,7 @@ public final class Formatseer {
         }
 
         /** Whether each is as much greater than the one ahead, modulo 256. */
-        boolean isEven() {
+        boolean isStepped() {
             for (int place = 2; place < count; place++) {
                 if ((at(place) - at(place - 1) & 255) != (at(1) - at(0) & 255)) {
                     return false;
@@ -1016,10 +1015,11 @@ public final class Formatseer {
         /** Compares a sample whose bytes are other ones now. */
         void settle(int number) {
             for (int other = 0; other < count; other++) {
-                Row lower = bytesOf(Math.min(number, other));
-                Row higher = bytesOf(Math.max(number, other));
-                distances.put(pairOf(number, other), comparer.distance(lower, higher));
-                scores.put(pairOf(number, other), UNKNOWN);
+                int lower = Math.min(number, other);
+                int higher = Math.max(number, other);
+                distances.put(backOf(lower, higher), UNKNOWN);
+                distances.put(pairOf(lower, higher), comparer.distance(bytesOf(lower), bytesOf(higher)));
+                scores.put(pairOf(lower, higher), UNKNOWN);
             }
             sort();
         }
@@ -1029,8 +1029,18 @@ public final class Formatseer {
             return Math.min(first, second) * MOST_SAMPLES + Math.max(first, second);
         }
 
-        int distanceOf(int first, int second) {
-            return distances.at(pairOf(first, second));
+        /** The number of a pair from the higher one to the lower one. */
+        private static int backOf(int lower, int higher) {
+            return higher * MOST_SAMPLES + lower;
+        }
+
+        /** Whether the distance is the same both ways round; the way back is made when it is asked for, and kept. */
+        boolean isEven(int lower, int higher) {
+            int back = backOf(lower, higher);
+            if (distances.at(back) == UNKNOWN) {
+                distances.put(back, comparer.distance(bytesOf(higher), bytesOf(lower)));
+            }
+            return distances.at(back) == distances.at(pairOf(lower, higher));
         }
 
         int likenessOf(int first, int second) {
@@ -1168,16 +1178,24 @@ public final class Formatseer {
             Row centre = samples.bytesOf(middle);
             gaps.fill(0);
             for (int sample = 0; sample < samples.size(); sample++) {
-                if (samples.isIn(sample, leader)) {
+                if (sample != middle && samples.isIn(sample, leader)) {
                     comparer.trace(centre, samples.bytesOf(sample), spots, sample * MOST_BYTES);
                     widen(sample);
                 }
             }
+            standInOrder(centre.size());
             countColumns(centre.size());
             for (int sample = 0; sample < samples.size(); sample++) {
                 if (samples.isIn(sample, leader)) {
                     spread(sample);
                 }
+            }
+        }
+
+        /** The centre stands beside itself. */
+        private void standInOrder(int length) {
+            for (int place = 0; place < length; place++) {
+                spots.put(middle * MOST_BYTES + place, 2 * place + 1);
             }
         }
 
@@ -1236,7 +1254,7 @@ public final class Formatseer {
             if (different <= 1) {
                 return 'c';
             }
-            if (column.size() >= 3 && column.isEven()) {
+            if (column.size() >= 3 && column.isStepped()) {
                 return 'n';
             }
             if (2 * different <= column.size()) {
