@@ -139,6 +139,10 @@ public final class DescriptionsTest {
         Check.due("28: cheaper than z", "c5c0", () -> found(row(5, 0), row(5, 0), row(5, 0), row(5, 0)));
         Check.due("28: no 0 but at the end", "throws " + NoSuchElementException.class.getName(),
                 () -> thrownBy(row(5, 0, 6, 0), row(5, 0)));
+        Check.due("28: the first one does not end with 0", "throws " + NoSuchElementException.class.getName(),
+                () -> thrownBy(row(5, 6, 7), row(5, 0)));
+        Check.due("28: the last one does not end with 0", "throws " + NoSuchElementException.class.getName(),
+                () -> thrownBy(row(5, 0), row(5, 6, 7)));
         Check.due("28: no bytes", "throws " + NoSuchElementException.class.getName(), () -> thrownBy(row()));
         Formatseer seer = new Formatseer();
         Check.sample(seer, 200, 201, 202, 203, 204, 205, 206, 207, 208, 209, 210, 211, 212, 213, 214);
