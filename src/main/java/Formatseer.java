@@ -1059,7 +1059,9 @@ public final class Formatseer {
                 isMoving = false;
                 for (int first = 0; first < count; first++) {
                     for (int second = 0; second < first; second++) {
-                        isMoving |= leaders.at(first) != leaders.at(second) && joins(first, second);
+                        if (leaders.at(first) != leaders.at(second) && joins(first, second)) {
+                            isMoving = true;
+                        }
                     }
                 }
             }
@@ -1232,20 +1234,20 @@ public final class Formatseer {
         }
 
         private void spread(int sample) {
-            for (int at = 0; at < width; at++) {
-                cells.put(sample * MOST_COLUMNS + at, EMPTY_CELL);
+            for (int index = 0; index < width; index++) {
+                cells.put(sample * MOST_COLUMNS + index, EMPTY_CELL);
             }
             Row bytes = samples.bytesOf(sample);
             for (int place = 0; place < bytes.size(); place++) {
                 int spot = spotOf(sample, place);
                 int begin = begins.at(spot / 2);
-                int at = spot % 2 == 0 ? begin + runAt(sample, place) - 1 : begin + gaps.at(spot / 2);
-                cells.put(sample * MOST_COLUMNS + at, bytes.at(place));
+                int index = spot % 2 == 0 ? begin + runAt(sample, place) - 1 : begin + gaps.at(spot / 2);
+                cells.put(sample * MOST_COLUMNS + index, bytes.at(place));
             }
         }
 
-        int at(int sample, int at) {
-            return cells.at(sample * MOST_COLUMNS + at);
+        int at(int sample, int index) {
+            return cells.at(sample * MOST_COLUMNS + index);
         }
 
         char verdict(int wanted) {
@@ -1275,9 +1277,10 @@ public final class Formatseer {
         boolean givesBack(int sample) {
             Row bytes = samples.bytesOf(sample);
             int place = 0;
-            for (int at = 0; at < width; at++) {
-                if (at(sample, at) != EMPTY_CELL) {
-                    if (!bytes.has(place) || bytes.at(place) != at(sample, at)) {
+            for (int index = 0; index < width; index++) {
+                int found = at(sample, index);
+                if (found != EMPTY_CELL) {
+                    if (!bytes.has(place) || bytes.at(place) != found) {
                         return false;
                     }
                     place++;
@@ -1877,19 +1880,17 @@ public final class Formatseer {
 
         /** How many bytes an item takes from here; more than there are if it finds no end. */
         private int wantedSize(int sign, int value, int register, Row bytes) {
-            switch (sign) {
-                case 'b':
-                    return value;
-                case 'v':
-                    return registers.at(register);
-                case 'N':
-                    return 2;
-                case 'z':
-                    int end = bytes.placeOf(0, place);
-                    return (end < 0 ? bytes.size() : end) + 1 - place;
-                default:
-                    return 1;
+            if (sign == 'z') {
+                int end = bytes.placeOf(0, place);
+                return (end < 0 ? bytes.size() : end) + 1 - place;
             }
+            if (sign == 'b') {
+                return value;
+            }
+            if (sign == 'v') {
+                return registers.at(register);
+            }
+            return sign == 'N' ? 2 : 1;
         }
 
         /** Whether the byte here is not the one that is told. */
