@@ -11,14 +11,6 @@ public final class AlignmentTest {
         Check.end();
     }
 
-    private static String cellsOf(Formatseer seer, int sample) {
-        StringBuilder cells = new StringBuilder();
-        for (int column = 0; column < seer.columns(sample); column++) {
-            cells.append(seer.cell(sample, column)).append(' ');
-        }
-        return cells.toString().trim();
-    }
-
     private static void centres() {
         Formatseer seer = new Formatseer();
         Check.sample(seer, 1, 2);
@@ -29,9 +21,9 @@ public final class AlignmentTest {
         Check.sample(seer, 1, 7, 2);
         Check.due("11: the greatest sum", 2, () -> seer.centre(0));
         Check.due("12: the centre's three and one more", 4, () -> seer.columns(0));
-        Check.due("13: 0", "1 -1 -1 2", () -> cellsOf(seer, 0));
-        Check.due("13: 1", "1 7 8 2", () -> cellsOf(seer, 1));
-        Check.due("13: 2", "1 7 -1 2", () -> cellsOf(seer, 2));
+        Check.due("13: 0", "1 -1 -1 2", () -> Check.cellsOf(seer, 0));
+        Check.due("13: 1", "1 7 8 2", () -> Check.cellsOf(seer, 1));
+        Check.due("13: 2", "1 7 -1 2", () -> Check.cellsOf(seer, 2));
         seer.setAside(2, true);
         Check.due("11: without the one that is set aside", 0, () -> seer.centre(0));
         Formatseer empty = new Formatseer();
@@ -50,12 +42,12 @@ public final class AlignmentTest {
         Check.sample(seer, 1, 8, 9, 2);
         seer.setLimit(500);
         Check.due("12: as many as the most", 4, () -> seer.columns(3));
-        Check.due("13: in the first ones", "1 7 -1 2", () -> cellsOf(seer, 2));
-        Check.due("13: the most", "1 8 9 2", () -> cellsOf(seer, 3));
-        Check.due("13: the centre", "1 -1 -1 2", () -> cellsOf(seer, 0));
+        Check.due("13: in the first ones", "1 7 -1 2", () -> Check.cellsOf(seer, 2));
+        Check.due("13: the most", "1 8 9 2", () -> Check.cellsOf(seer, 3));
+        Check.due("13: the centre", "1 -1 -1 2", () -> Check.cellsOf(seer, 0));
         Check.sample(seer, 1, 2, 6);
         Check.due("12: behind the last byte", 5, () -> seer.columns(0));
-        Check.due("13: behind the last byte", "1 -1 -1 2 6", () -> cellsOf(seer, 4));
+        Check.due("13: behind the last byte", "1 -1 -1 2 6", () -> Check.cellsOf(seer, 4));
     }
 
     private static void waysFromTheEnds() {
@@ -63,21 +55,21 @@ public final class AlignmentTest {
         Check.sample(seer, 1);
         Check.sample(seer, 1, 1);
         seer.setLimit(1);
-        Check.due("13: two beside one another first", "-1 1", () -> cellsOf(seer, 0));
-        Check.due("13: ahead of them", "1 1", () -> cellsOf(seer, 1));
+        Check.due("13: two beside one another first", "-1 1", () -> Check.cellsOf(seer, 0));
+        Check.due("13: ahead of them", "1 1", () -> Check.cellsOf(seer, 1));
         Formatseer gaps = new Formatseer();
         Check.sample(gaps, 5, 6, 5);
         Check.sample(gaps, 6, 5, 6);
         gaps.setLimit(1);
-        Check.due("13: a gap in the other first, the centre", "-1 5 6 5", () -> cellsOf(gaps, 0));
-        Check.due("13: a gap in the other first, the other", "6 5 6 -1", () -> cellsOf(gaps, 1));
+        Check.due("13: a gap in the other first, the centre", "-1 5 6 5", () -> Check.cellsOf(gaps, 0));
+        Check.due("13: a gap in the other first, the other", "6 5 6 -1", () -> Check.cellsOf(gaps, 1));
         Formatseer unlike = new Formatseer();
         Check.sample(unlike, 1, 2);
         Check.sample(unlike, 2, 1, 3, 3);
         Check.sample(unlike, 1, 2, 3, 3);
         unlike.setLimit(1);
         Check.due("11: the greatest sum of scores", 2, () -> unlike.centre(0));
-        Check.due("13: unlike ones cost less than gaps", "2 1 3 3", () -> cellsOf(unlike, 1));
+        Check.due("13: unlike ones cost less than gaps", "2 1 3 3", () -> Check.cellsOf(unlike, 1));
     }
 
     private static char judged(int... bytes) {

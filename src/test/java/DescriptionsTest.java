@@ -367,18 +367,6 @@ public final class DescriptionsTest {
         Check.dueThrow("36: no other", IndexOutOfBoundsException.class, () -> seer.differ(0, -1));
     }
 
-    private static String bytesOf(Formatseer seer, int sample) {
-        StringBuilder bytes = new StringBuilder();
-        for (int place = 0; place < 40; place++) {
-            try {
-                bytes.append(seer.byteAt(sample, place)).append(' ');
-            } catch (NoSuchElementException end) {
-                break;
-            }
-        }
-        return bytes.toString().trim();
-    }
-
     private static void mutants() {
         Formatseer seer = new Formatseer();
         Check.describe(seer, "c7nv0hsxb1zs");
@@ -401,7 +389,7 @@ public final class DescriptionsTest {
         int mixed = 7 ^ 1 ^ 250 ^ 6 ^ s;
         int sum = 7 + 1 + 250 + 6 + s + mixed + 9 + 3 & 255;
         Check.due("37: sums mended in their order", "7 1 250 6 " + s + " " + mixed + " 9 3 0 " + sum,
-                () -> bytesOf(seer, 2));
+                () -> Check.bytesOf(seer, 2));
         Check.due("37: the new one is read", -1, () -> seer.read(0, 2));
         Check.due("37: the old one stays", 5, () -> seer.byteAt(1, 2));
         Check.due("37: h", 3, () -> seer.mutant(0, 1, 3, 0));

@@ -14,28 +14,12 @@ public final class RelationsTest {
         Check.end();
     }
 
-    private static Formatseer seerOf(int[]... rows) {
-        Formatseer seer = new Formatseer();
-        for (int[] row : rows) {
-            Check.sample(seer, row);
-        }
-        seer.setLimit(1);
-        return seer;
-    }
-
     private static int[] row(int... bytes) {
         return bytes;
     }
 
-    /** All relations, as kind, place, form and rest. */
     private static String told(int[]... rows) {
-        Formatseer seer = seerOf(rows);
-        StringBuilder text = new StringBuilder();
-        for (int index = 0; index < seer.relations(0); index++) {
-            text.append(seer.kindOf(0, index)).append(seer.detail(0, index, 'p')).append(',')
-                    .append(seer.detail(0, index, 'f')).append(',').append(seer.detail(0, index, 'r')).append(' ');
-        }
-        return text.toString().trim();
+        return Check.relationsOf(Check.seerOf(1, rows), 0);
     }
 
     private static void lengths() {
@@ -97,7 +81,7 @@ public final class RelationsTest {
     }
 
     private static void claims() {
-        Formatseer seer = seerOf(row(3, 9, 9), row(2, 9));
+        Formatseer seer = Check.seerOf(1, row(3, 9, 9), row(2, 9));
         Check.due("18: the first", 0, () -> seer.claim(1, 0));
         Check.due("18: the second", 1, () -> seer.claim(0, 1));
         Check.due("19: stands", true, () -> seer.stands(0));
@@ -118,7 +102,7 @@ public final class RelationsTest {
         Check.dueThrow("19: no claim", IndexOutOfBoundsException.class, () -> seer.stands(2));
         Check.dueThrow("19: below", IndexOutOfBoundsException.class, () -> seer.stands(-1));
         Check.dueThrow("20: no claim", IndexOutOfBoundsException.class, () -> seer.rests(2));
-        Formatseer many = seerOf(row(3, 9, 9), row(2, 9));
+        Formatseer many = Check.seerOf(1, row(3, 9, 9), row(2, 9));
         for (int number = 0; number < 20; number++) {
             many.claim(0, number % 2);
         }
@@ -152,8 +136,8 @@ public final class RelationsTest {
     }
 
     private static void packing() {
-        Formatseer seer = seerOf(row(65, 66), row(), row(0, 31), row(0, 255), row(3, 1, 255, 2), row(3), row(0, 1),
-                row(3, 1, 0, 2), row(5, 5, 5), row(127, 128));
+        Formatseer seer = Check.seerOf(1, row(65, 66), row(), row(0, 31), row(0, 255), row(3, 1, 255, 2), row(3),
+                row(0, 1), row(3, 1, 0, 2), row(5, 5, 5), row(127, 128));
         Check.due("21: 1 itself", 1, () -> seer.mask(0));
         Check.dueThrow("21: no bytes", NoSuchElementException.class, () -> seer.mask(1));
         Check.due("21: the least", 32, () -> seer.mask(2));
@@ -166,7 +150,7 @@ public final class RelationsTest {
         }
         strict[31] = 255 - 32;
         strict[32] = 255 - 64;
-        Check.due("21: the greatest", 255, () -> seerOf(strict).mask(0));
+        Check.due("21: the greatest", 255, () -> Check.seerOf(1, strict).mask(0));
         Check.due("22: counts", 258, () -> seer.unpacked(4));
         Check.due("22: no bytes", 0, () -> seer.unpacked(1));
         Check.dueThrow("22: no pair", NoSuchElementException.class, () -> seer.unpacked(5));
