@@ -53,7 +53,8 @@ public final class DescriptionsTest {
             "nv00", "v0n", "n0", "h1", "z0", "nr0", "nr0()", "nr0h", "nr0(h", "nr0h)", "nr(h)", "nr1(h)", "nr00(h)",
             "r0(n)", "nr0(v1)", "nr0(v1n)", "ni0(h)", "ni0=(h)", "ni0=256(h)", "ni0=1()", "ni0=1h", "ni0=0001(h)",
             "i0=1(n)", "ni=1(h)", "()", "(h)", "h)", ")", "(", "=", "1", "hh)", "nr0(h))", "nr0((h))",
-            "nr0hh)", "nr0=h)", "ni0h1(h)", "ni0(1(h)", "ni0=1hh)", "nr0(r0(r0(r0(r0(h)))))", "nr0(i0=1(r0(i0=2(r0(h)))))", "nr0(r0(r0(r0(h))))r0()", "c=1"};
+            "nr0hh)", "nr0=h)", "ni0h1(h)", "ni0(1(h)", "ni0=1hh)",
+            "nr0(r0(r0(r0(r0(h)))))", "nr0(i0=1(r0(i0=2(r0(h)))))", "nr0(r0(r0(r0(h))))r0()", "c=1"};
         for (String text : bad) {
             Formatseer seer = new Formatseer();
             Check.dueThrow("26: " + text, IllegalArgumentException.class, () -> Check.describe(seer, text));
@@ -376,7 +377,8 @@ public final class DescriptionsTest {
         Check.sample(seer, 7, 1, 5, 6, 19, x, 9, 3, 0, last);
         Check.due("37: it is read", -1, () -> seer.read(0, 1));
         for (int place : new int[] {-1, 0, 1, 4, 5, 8, 9, 10, Integer.MAX_VALUE, Integer.MIN_VALUE}) {
-            Check.dueThrow("37: place " + place, UnsupportedOperationException.class, () -> seer.mutant(0, 1, place, 2));
+            Check.dueThrow("37: place " + place, UnsupportedOperationException.class,
+                    () -> seer.mutant(0, 1, place, 2));
         }
         Check.dueThrow("37: 0 in z", UnsupportedOperationException.class, () -> seer.mutant(0, 1, 7, 0));
         Check.dueThrow("37: it is not read", UnsupportedOperationException.class, () -> seer.mutant(0, 0, 2, 2));

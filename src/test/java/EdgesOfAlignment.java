@@ -37,6 +37,11 @@ final class EdgesOfAlignment {
                 () -> cells(Check.row(1, 2, 3), Check.row(1, 4, 3)));
         Check.due("two pairs of others, and one like pair with two gaps: as good, so beside one another",
                 "1 2 7 / 2 3 7", () -> cells(Check.row(1, 2, 7), Check.row(2, 3, 7)));
+        Check.due("two others are dearer than that with three like pairs and four gaps",
+                "-1 -1 1 2 3 4 5 / 8 9 1 2 3 -1 -1",
+                () -> cells(Check.row(1, 2, 3, 4, 5), Check.row(8, 9, 1, 2, 3)));
+        Check.due("with two like pairs and four gaps it is as good", "1 2 3 4 / 8 9 1 2",
+                () -> cells(Check.row(1, 2, 3, 4), Check.row(8, 9, 1, 2)));
         Sentence.of("The score is the greatest sum.");
         Check.due("scores 6, 1 and 0 make 2 the centre", 2, () -> Check.seerOf(1,
                 Check.row(1, 2), Check.row(2, 1, 3, 3), Check.row(1, 2, 3, 3)).centre(0));
@@ -65,7 +70,8 @@ final class EdgesOfAlignment {
     }
 
     private static void ways() {
-        Sentence.of("of several ways, from their ends on: two bytes beside one another before a gap in the other sample");
+        Sentence.of("of several ways, from their ends on: two bytes beside one another before a gap in the other"
+                + " sample");
         Check.due("the last byte of the centre beside the only one", "1 1 / -1 1",
                 () -> cells(Check.row(1, 1), Check.row(1)));
         Check.due("the last ones of three", "1 1 1 / -1 -1 1", () -> cells(Check.row(1, 1, 1), Check.row(1)));
@@ -81,7 +87,8 @@ final class EdgesOfAlignment {
     }
 
     private static void bytesBesideGaps() {
-        Sentence.of("Ahead of each byte of the centre, and behind the last one, there are as many columns more as the most"
+        Sentence.of("Ahead of each byte of the centre, and behind the last one, there are as many columns more as"
+                + " the most"
                 + " bytes that one of the others has there beside gaps");
         int[] two = Check.row(1, 2);
         Check.due("ahead of the first byte", "-1 1 2 / -1 1 2 / 9 1 2",
@@ -95,6 +102,16 @@ final class EdgesOfAlignment {
         Check.due("at all three places at once", 6, () -> Check.seerOf(1, two, two, two,
                 Check.row(9, 1, 2), Check.row(1, 8, 2), Check.row(1, 2, 7), Check.row(1, 2, 6, 6)).columns(0));
         Check.due("none", 2, () -> Check.seerOf(1, two, two, Check.row(1)).columns(0));
+        Check.due("the first one is not the centre", "1 -1 -1 2 / 1 7 8 2 / 1 7 -1 2",
+                () -> cells(two, Check.row(1, 7, 8, 2), Check.row(1, 7, 2)));
+        Check.due("the first one is longer than the centre", "1 9 2 / 1 -1 2 / 1 -1 2",
+                () -> cells(Check.row(1, 9, 2), two, two));
+        Check.due("ahead of the third byte", "1 2 -1 3 / 1 2 -1 3 / 1 2 9 3",
+                () -> cells(Check.row(1, 2, 3), Check.row(1, 2, 3), Check.row(1, 2, 9, 3)));
+        Formatseer seer = Check.seerOf(1, two, two, Check.row(1, 9, 2));
+        Check.due("three", 3, () -> seer.columns(0));
+        seer.setAside(2, true);
+        Check.due("it is set aside, and its column is gone", 2, () -> seer.columns(0));
         Sentence.of("these bytes stand in the first ones of them");
         Check.due("ahead", "-1 -1 1 2 / -1 -1 1 2 / -1 -1 1 2 / 9 -1 1 2 / 8 7 1 2",
                 () -> cells(two, two, two, Check.row(9, 1, 2), Check.row(8, 7, 1, 2)));
@@ -102,6 +119,8 @@ final class EdgesOfAlignment {
                 () -> cells(two, two, two, Check.row(1, 2, 9), Check.row(1, 2, 8, 7)));
         Check.due("between", "1 -1 -1 2 / 1 -1 -1 2 / 1 -1 -1 2 / 1 9 -1 2 / 1 8 7 2",
                 () -> cells(two, two, two, Check.row(1, 9, 2), Check.row(1, 8, 7, 2)));
+        Check.due("between, the most ahead of the fewer ones", "1 -1 -1 2 / 1 -1 -1 2 / 1 -1 -1 2 / 1 8 7 2 / 1 9 -1 2",
+                () -> cells(two, two, two, Check.row(1, 8, 7, 2), Check.row(1, 9, 2)));
     }
 
     private static void columnsOfTheCentre() {
@@ -114,6 +133,33 @@ final class EdgesOfAlignment {
                 () -> cells(Check.row(1, 2, 3), Check.row(1, 3), Check.row(1, 2, 3)));
         int[] full = Check.filled(40, 5);
         Check.due("40 bytes", 40, () -> Check.seerOf(600, full, full).columns(1));
+        int[] rising = new int[40];
+        int[] later = Check.filled(40, 200);
+        int[] sooner = Check.filled(40, 201);
+        for (int place = 0; place < 40; place++) {
+            rising[place] = place;
+            later[Math.min(place + 4, 39)] = Math.min(place, 35);
+            sooner[Math.max(place - 4, 0)] = Math.max(place, 4);
+        }
+        Formatseer shifted = Check.seerOf(1, rising, later, sooner);
+        Check.due("the centre of them", 0, () -> shifted.centre(2));
+        Check.due("40 bytes, 4 ahead of the first and 4 behind the last one", 48, () -> shifted.columns(0));
+        for (int column = 0; column < 4; column++) {
+            int one = column;
+            Check.due("one of those ahead", 200, () -> shifted.cell(1, one));
+            Check.due("one of those behind", 201, () -> shifted.cell(2, 44 + one));
+        }
+        Check.due("the first of the centre", 0, () -> shifted.cell(0, 4));
+        Check.due("the last of the centre", 39, () -> shifted.cell(0, 43));
+        Check.due("a gap beside it", -1, () -> shifted.cell(1, 43));
+        Check.due("a byte beside it", 39, () -> shifted.cell(2, 43));
+        Formatseer twice = Check.seerOf(1, rising, later, later);
+        twice.setAside(0, true);
+        Check.due("without it", 40, () -> twice.columns(2));
+        twice.setAside(0, false);
+        twice.setAside(1, true);
+        Check.due("with it", 44, () -> twice.columns(2));
+        Check.due("the third one of those ahead", 200, () -> twice.cell(2, 2));
         Formatseer wide = new Formatseer();
         for (int sample = 0; sample < 5; sample++) {
             Check.sample(wide, 1, 2, 3, 4);
@@ -182,7 +228,8 @@ final class EdgesOfAlignment {
             Check.sample(mixed, 40 - step, 41, 42, 43, 44);
         }
         Check.due("other classes between them", 'n', () -> mixed.judge(0, 3));
-        Sentence.of("otherwise 'n' if there are 3 or more and each is as much greater than the one ahead, modulo 256, 'e'"
+        Sentence.of("otherwise 'n' if there are 3 or more and each is as much greater than the one ahead, modulo"
+                + " 256, 'e'"
                 + " if");
         Check.due("'n' ahead of 'e'", 'n', () -> judged(0, 128, 0, 128));
         Check.due("'n' ahead of 't'", 'n', () -> judged(65, 66, 67));

@@ -20,7 +20,8 @@ final class EdgesOfExceptions {
     private static final String NO_SAMPLE = "Throws `IndexOutOfBoundsException` if there is no such sample";
     private static final String ASIDE = "Throws `UnsupportedOperationException` if it is set aside";
     private static final String NO_DESCRIPTION = "Throws `IndexOutOfBoundsException` if there is no such description";
-    private static final String NEITHER = "Throws `IndexOutOfBoundsException` if there is no such description or sample";
+    private static final String NEITHER =
+            "Throws `IndexOutOfBoundsException` if there is no such description or sample";
 
     /** The number of the sample that is set aside, of the empty one, and of one with 40 bytes. */
     private static final int SET_ASIDE = 5;
@@ -83,7 +84,8 @@ final class EdgesOfExceptions {
         text.append(told("texts", 6, number -> Check.textOf(seer, number)));
         text.append(told("reading", 6, number -> seer.read(number, 0)));
         text.append(told("classes", 10, seer::classOf)).append(told("bytes", 10, seer::variety));
-        text.append(told("states", 4, seer::states)).append(told("next", 4, session -> seer.canFollow(session, 1, 0, 2)));
+        text.append(told("states", 4, seer::states))
+                .append(told("next", 4, session -> seer.canFollow(session, 1, 0, 2)));
         text.append(told("messages", 4, session -> seer.send(session, 0, 0)));
         text.append(told("asides", 10, sample -> seer.setAside(sample, false)));
         text.append(" limit ").append(seer.setLimit(1));
@@ -313,7 +315,8 @@ final class EdgesOfExceptions {
 
     private static void buffers() {
         String full = "h".repeat(60);
-        Sentence.of(24, "Throws `IllegalArgumentException` if it is neither a digit nor one of c b n N v z s x h r i ( ) =");
+        Sentence.of(24, "Throws `IllegalArgumentException` if it is neither a digit nor one of c b n N v z s x h r"
+                + " i ( ) =");
         for (char sign : new char[] {'/', ':', 'C', 'a', 'd', '<', '>', ' ', '*', 0, 0xffff}) {
             thrown(ARGUMENT, seer -> seer.type(sign));
         }
@@ -444,7 +447,8 @@ final class EdgesOfExceptions {
         for (int value : new int[] {-1, 256, Integer.MAX_VALUE, Integer.MIN_VALUE}) {
             Check.dueThrow("byte " + value, ARGUMENT, () -> seer.mutant(0, 0, 1, value));
         }
-        Sentence.of(37, "Throws `UnsupportedOperationException` if the description does not read the sample, the place is in"
+        Sentence.of(37, "Throws `UnsupportedOperationException` if the description does not read the sample, the"
+                + " place is in"
                 + " no field by b, v, h or z, it is the last byte of one by z, or the byte would be 0 in such a one");
         Check.dueThrow("it does not read it", UNSUPPORTED, () -> seer.mutant(1, 0, 1, 7));
         Check.dueThrow("n", UNSUPPORTED, () -> seer.mutant(0, 0, 0, 7));
@@ -547,7 +551,8 @@ final class EdgesOfExceptions {
         Sentence.of("A method that throws an exception changes nothing.");
         thrown(STATE, Formatseer::sample);
         thrown(ARGUMENT, seer -> seer.setLimit(0));
-        Sentence.of("Samples, edits, answers and messages come by calls; classes, fields, relations and costs are asked.");
+        Sentence.of("Samples, edits, answers and messages come by calls; classes, fields, relations and costs are"
+                + " asked.");
         Formatseer seer = house("hh");
         seer.classOf(0);
         seer.isOutlier(0);

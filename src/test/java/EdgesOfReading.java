@@ -170,12 +170,14 @@ final class EdgesOfReading {
     }
 
     private static void conditions() {
-        Sentence.of("i, a register, =, a number up to 255, and items in ( ): the items if the register is this number.");
+        Sentence.of("i, a register, =, a number up to 255, and items in ( ): the items if the register is this"
+                + " number.");
         Check.due("it is 0", "0+1 1+1", () -> told("ni0=0(h)", 0, 7));
         Check.due("it is not 0", "0+1", () -> told("ni0=0(h)", 1));
         Check.due("it is 255", "0+1 1+1", () -> told("ni0=255(h)", 255, 7));
         Check.due("it is 255 of two bytes", "0+2 2+1", () -> told("Ni0=255(h)", 0, 255, 7));
         Check.due("it is 256, not 0", "0+2", () -> told("Ni0=0(h)", 1, 0));
+        Check.due("it is 256, not 255", "0+2", () -> told("Ni0=255(h)", 1, 0));
         Check.due("once only", 2, () -> read("ni0=3(h)", 3, 7, 7));
     }
 
@@ -197,6 +199,14 @@ final class EdgesOfReading {
                 () -> told("c7b2nNv0zsxh", 7, 1, 2, 1, 0, 5, 6, 3, 0, 25, 7 ^ 1 ^ 2 ^ 1 ^ 5 ^ 6 ^ 3 ^ 25, 9));
         Check.due("without bytes", "0+1 1+0 1+0", () -> told("nv0v0", 0));
         Check.due("r and i are none", "0+1 1+1 2+1", () -> told("nr0(h)i0=1(h)", 1, 7, 8));
+        Formatseer seer = Check.seerOf(600, Check.row(0), Check.row(2, 8, 8), Check.row(2, 7), Check.row(1, 8));
+        Check.describe(seer, "nr0(c8)");
+        Check.due("one sample", "0+1", () -> Check.fieldsOf(seer, 0, 0));
+        Check.due("another one behind it", "0+1 1+1 2+1", () -> Check.fieldsOf(seer, 0, 1));
+        Check.due("one that fails in ( )", "0+1", () -> Check.fieldsOf(seer, 0, 2));
+        Check.due("one behind that", "0+1 1+1", () -> Check.fieldsOf(seer, 0, 3));
+        Check.due("it fails there", 1, () -> seer.read(0, 2));
+        Check.due("and the next one is read anew", -1, () -> seer.read(0, 3));
         Sentence.of(31, "Returns how many fields are read of a sample, up to where it fails.");
         Check.due("none", "fails 0", () -> told("c7h", 8, 8));
         Check.due("none of an empty sample", "fails 0", () -> told("h"));
@@ -236,7 +246,8 @@ final class EdgesOfReading {
     }
 
     private static void costs() {
-        Sentence.of("A description costs 10 for each of its signs, and for each sample 8 for each byte of fields other than"
+        Sentence.of("A description costs 10 for each of its signs, and for each sample 8 for each byte of fields"
+                + " other than"
                 + " c, s and x");
         Check.due("no samples", 10, () -> cost("h"));
         Check.due("sixty signs", 600, () -> cost("h".repeat(60)));

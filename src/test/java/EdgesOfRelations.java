@@ -50,13 +50,22 @@ final class EdgesOfRelations {
         Check.due("one sample, its sum", "", () -> told(Check.row(1, 2, 3)));
         Check.due("two samples", "l0,1,0 k0,0,0", () -> told(one, other));
         Check.due("three, and it holds for all", "l0,1,0 k0,0,0", () -> told(one, other, Check.row(4, 9, 9, 9)));
-        Check.due("three, and it does not hold for the last one", "k0,0,0", () -> told(one, other, Check.row(4, 9, 9, 9, 9)));
+        Check.due("three, and it does not hold for the last one", "k0,0,0",
+                () -> told(one, other, Check.row(4, 9, 9, 9, 9)));
         Formatseer seer = Check.seerOf(1, one, other);
         seer.setAside(1, true);
         Check.due("the second one is set aside", 0, () -> seer.relations(0));
         seer.setAside(1, false);
         seer.setLimit(1000);
         Check.due("two classes of one sample", 0, () -> seer.relations(0) + seer.relations(1));
+        for (int[] first : new int[][] {{}, {200}, Check.filled(40, 200)}) {
+            Check.due("another class ahead does not count", "l0,1,3 +2,0,0 +3,0,0 +4,0,0 ^2,0,0 ^3,0,0 ^4,0,0"
+                    + " -2,0,0 -3,0,0 -4,0,0 k0,0,0 k1,0,0 r1,2,2 o0,0,0",
+                            () -> Check.relationsOf(Check.seerOf(1, first,
+                    Check.row(3, 1, 0, 0, 0, 0), Check.row(5, 2, 0, 0, 0, 0, 0, 0)), 1));
+            Check.due("nor for lengths that are alike", "+1,0,0 ^1,0,0", () -> Check.relationsOf(Check.seerOf(1, first,
+                    Check.row(1, 2, 2), Check.row(1, 3, 3)), 1));
+        }
     }
 
     private static void lengths() {
@@ -78,13 +87,13 @@ final class EdgesOfRelations {
         Sentence.of("the forms are 1 one byte, 2 two bytes, the greater one first, 3 two bytes, the lesser one first.");
         Check.due("1 at the last place of the shortest one", "l1,1,1 k1,0,0",
                 () -> told(Check.row(9, 1), Check.row(9, 2, 9)));
-        Check.due("1 not behind it", "", () -> told(Check.row(9, 9, 9, 4), Check.row(9, 9, 9)));
+        Check.due("1 not behind it", "", () -> told("l", Check.row(9, 9, 9, 1), Check.row(9, 9, 9)));
         Check.due("2 at the last places of the shortest one", "l0,2,0 l1,1,0 k1,0,0",
                 () -> told(Check.row(0, 2), Check.row(0, 3, 9)));
         Check.due("3 at the last places of the shortest one", "l0,1,0 l0,3,0 k0,0,0",
                 () -> told(Check.row(2, 0), Check.row(3, 0, 9)));
-        Check.due("3 not behind them", "", () -> told("l", Check.row(0), Check.row(0, 0)));
-        Check.due("2 not behind them", "", () -> told(Check.row(0), Check.row(0, 2)));
+        Check.due("3 not behind them", "l1,1,0", () -> told("l", Check.row(9, 2), Check.row(9, 3, 0)));
+        Check.due("2 not behind them", "", () -> told("l", Check.row(9, 0), Check.row(9, 0, 1)));
         Check.due("a second byte that is not 0", "l0,1,1 k0,0,0", () -> told(Check.row(1, 1), Check.row(2, 1, 9)));
     }
 
@@ -118,7 +127,8 @@ final class EdgesOfRelations {
     }
 
     private static void keys() {
-        Sentence.of("samples with the same byte there are as long, and those with others are not, and lengths are not all"
+        Sentence.of("samples with the same byte there are as long, and those with others are not, and lengths are"
+                + " not all"
                 + " alike.");
         Check.due("two of each", "k0,0,0",
                 () -> told(Check.row(5, 7), Check.row(6, 7, 7), Check.row(5, 7), Check.row(6, 7, 7)));
@@ -132,7 +142,8 @@ final class EdgesOfRelations {
     }
 
     private static void counts() {
-        Sentence.of("the length is 1 more than the place, plus the width times the byte there, plus the rest, bytes there"
+        Sentence.of("the length is 1 more than the place, plus the width times the byte there, plus the rest, bytes"
+                + " there"
                 + " not being all alike.");
         Check.due("a count of 0 at the last place", "k1,0,0 r1,2,0",
                 () -> told(Check.row(9, 0), Check.row(9, 1, 98, 97)));
@@ -162,23 +173,33 @@ final class EdgesOfRelations {
     }
 
     private static void offsets() {
-        Sentence.of("the byte there is a place in the sample, at which that one is found, bytes there not being all alike.");
+        Sentence.of("the byte there is a place in the sample, at which that one is found, bytes there not being all"
+                + " alike.");
         Check.due("the last place", "o0,77,0", () -> told("o", Check.row(2, 5, 77), Check.row(1, 77, 77)));
         Check.due("behind the last place", "", () -> told("o", Check.row(3, 5, 77), Check.row(1, 77, 77)));
         Check.due("behind it, in the second one", "", () -> told("o", Check.row(1, 77, 77), Check.row(3, 5, 77)));
         Check.due("behind the last place of both", "", () -> told("o", Check.row(3, 5, 77), Check.row(4, 5, 77)));
         Check.due("alike bytes", "", () -> told("o", Check.row(2, 5, 77), Check.row(2, 6, 77)));
         Check.due("place 0, and the byte 0", "o0,0,0", () -> told("o", Check.row(0, 5, 66), Check.row(1, 0, 66)));
-        Check.due("the byte 255", "o0,255,0", () -> told("o", Check.row(1, 255, 9), Check.row(2, 9, 255), Check.row(2, 255, 255)));
+        Check.due("the byte 255", "o0,255,0",
+                () -> told("o", Check.row(1, 255, 9), Check.row(2, 9, 255), Check.row(2, 255, 255)));
         Check.due("another byte is found", "", () -> told("o", Check.row(1, 77, 9), Check.row(2, 77, 78)));
         Check.due("at the last place of the shortest one", "o1,9,0",
                 () -> told("o", Check.row(9, 0), Check.row(9, 2, 9)));
+        Check.due("not behind it", "", () -> told("o", Check.row(7), Check.row(7, 2, 7)));
+        Check.due("behind the last place of the first one there is no 0", "",
+                () -> told("o", Check.row(3, 5, 77), Check.row(1, 0, 77)));
+        Check.due("nor behind that of the second one", "", () -> told("o", Check.row(1, 0, 77), Check.row(3, 5, 77)));
     }
 
     private static void order() {
         Sentence.of("They are ordered by kinds, as told here, then by places, forms or widths, and rests.");
         Check.due("all kinds", "l0,1,3 +2,0,0 +3,0,0 +4,0,0 ^2,0,0 ^3,0,0 ^4,0,0 -2,0,0 -3,0,0 -4,0,0"
-                + " k0,0,0 k1,0,0 r1,2,2 o0,0,0", () -> told(Check.row(3, 1, 0, 0, 0, 0), Check.row(5, 2, 0, 0, 0, 0, 0, 0)));
+                + " k0,0,0 k1,0,0 r1,2,2 o0,0,0",
+                        () -> told(Check.row(3, 1, 0, 0, 0, 0), Check.row(5, 2, 0, 0, 0, 0, 0, 0)));
+        int[] zeros = Check.filled(40, 0);
+        Check.due("three kinds of 39 places", 117, () -> Check.seerOf(1, zeros, zeros).relations(0));
+        Check.due("the last of them", "-38,0,0", () -> told(zeros, zeros).replaceAll(".* ", ""));
         Check.due("places ahead of forms", "l0,1,1 l0,3,1 l1,2,2 l2,1,2 l2,3,2",
                 () -> told("l", Check.row(4, 0, 3, 0, 1), Check.row(5, 0, 4, 0, 1, 2)));
     }
@@ -221,7 +242,8 @@ final class EdgesOfRelations {
     }
 
     private static void standing() {
-        Sentence.of(19, "its relation is one of the class of the sample for which it was made, which is not set aside, as"
+        Sentence.of(19, "its relation is one of the class of the sample for which it was made, which is not set"
+                + " aside, as"
                 + " they are now.");
         Formatseer seer = Check.seerOf(1, Check.row(3, 9, 9), Check.row(2, 9), Check.row(70, 71));
         seer.claim(0, 0);
@@ -344,7 +366,8 @@ final class EdgesOfRelations {
     }
 
     private static void varieties() {
-        Sentence.of(23, "Returns 1000 times their number, divided by that of its bytes, rounded down; 0 without bytes.");
+        Sentence.of(23, "Returns 1000 times their number, divided by that of its bytes, rounded down; 0 without"
+                + " bytes.");
         Check.due("no bytes", 0, () -> variety());
         Check.due("one byte", 1000, () -> variety(0));
         Check.due("two alike", 500, () -> variety(7, 7));
@@ -353,7 +376,8 @@ final class EdgesOfRelations {
         Check.due("6 of 7", 857, () -> variety(1, 2, 3, 4, 5, 6, 1));
         Check.due("1 of 40", 25, () -> variety(Check.filled(40, 255)));
         Check.due("1 of 39", 25, () -> variety(Check.filled(39, 0)));
-        Check.due("40 of 40", 1000, () -> variety(Check.row(0, 2, 3, 4, 5, 6, 7, 8, 9, 10, 11, 12, 13, 14, 15, 16, 17, 18,
+        Check.due("40 of 40", 1000,
+                () -> variety(Check.row(0, 2, 3, 4, 5, 6, 7, 8, 9, 10, 11, 12, 13, 14, 15, 16, 17, 18,
                 19, 20, 21, 22, 23, 24, 25, 26, 27, 28, 29, 30, 31, 32, 33, 34, 35, 36, 37, 38, 39, 255)));
     }
 }

@@ -141,7 +141,8 @@ final class EdgesOfSamples {
     }
 
     private static void distances() {
-        Sentence.of("The distance of two samples is the least number of bytes to change, to add and to leave out so that"
+        Sentence.of("The distance of two samples is the least number of bytes to change, to add and to leave out so"
+                + " that"
                 + " one becomes the other one.");
         Check.due("none", 1000, () -> likeness(Check.row(1, 2), Check.row(1, 2)));
         Check.due("one to change", 500, () -> likeness(Check.row(1, 2), Check.row(1, 3)));
@@ -149,14 +150,16 @@ final class EdgesOfSamples {
         Check.due("one to add, at the beginning", 500, () -> likeness(Check.row(2), Check.row(1, 2)));
         Check.due("one to leave out and one to add, not four to change", 500,
                 () -> likeness(Check.row(1, 2, 3, 4), Check.row(2, 3, 4, 5)));
-        Check.due("two to change, not four to leave out and to add", 0, () -> likeness(Check.row(1, 2), Check.row(3, 4)));
+        Check.due("two to change, not four to leave out and to add", 0,
+                () -> likeness(Check.row(1, 2), Check.row(3, 4)));
         Check.due("all 40 to change", 0, () -> likeness(Check.filled(40, 1), Check.filled(40, 2)));
         Check.due("all 40 to add", 0, () -> likeness(Check.filled(40, 1), Check.row()));
         Check.due("39 to add", 25, () -> likeness(Check.filled(40, 1), Check.row(1)));
     }
 
     private static void likenesses() {
-        Sentence.of("Their likeness is 1000 less what 1000 times the distance gives, divided by the length of the longer"
+        Sentence.of("Their likeness is 1000 less what 1000 times the distance gives, divided by the length of the"
+                + " longer"
                 + " one and rounded down");
         Check.due("1 of 3", 667, () -> likeness(Check.row(1, 2, 3), Check.row(1, 2, 4)));
         Check.due("2 of 3", 334, () -> likeness(Check.row(1, 2, 3), Check.row(1)));

@@ -85,7 +85,8 @@ final class EdgesOfTalks {
     }
 
     private static void sessions() {
-        Sentence.of("There are the sessions 0 to 3, each a row of at most 12 messages: a sample that is sent by the side 0"
+        Sentence.of("There are the sessions 0 to 3, each a row of at most 12 messages: a sample that is sent by the"
+                + " side 0"
                 + " or 1.");
         Formatseer seer = Check.seerOf(600, Check.row(1));
         for (int session = 0; session < 4; session++) {
@@ -150,13 +151,16 @@ final class EdgesOfTalks {
     private static void pairs() {
         Sentence.of("A pair is a message of the side 1 directly behind one of the side 0.");
         Check.due("two pairs", true, () -> echo(0, 1, "aBaB"));
+        Check.due("what follows a pair is of no interest", true, () -> echo(0, 1, "aBBaBB"));
+        Check.due("twelve messages, and those of the next session", true, () -> echo(0, 1, "aBaBbbbbbbbb", "A"));
         Check.due("of two sessions", true, () -> echo(0, 1, "aB", "aB"));
         Check.due("of the first and of the last one", true, () -> echo(0, 1, "aB", "", "", "aB"));
         Check.due("one behind another one of the side 1 is none", false, () -> echo(0, 1, "aBB"));
         Check.due("one ahead of another one of the side 0 is none", true, () -> echo(0, 1, "daBaB"));
         Check.due("side 1 ahead of side 0 is none", false, () -> echo(1, 0, "BaBa"));
         Check.due("not over sessions", false, () -> echo(0, 1, "aBa", "B"));
-        Sentence.of(43, "in all pairs, 2 or more, of all sessions, the byte at one place of the first message is that at"
+        Sentence.of(43, "in all pairs, 2 or more, of all sessions, the byte at one place of the first message is"
+                + " that at"
                 + " another place of the second one.");
         Check.due("no pairs", false, () -> echo(0, 1));
         Check.due("one pair", false, () -> echo(0, 1, "aB"));
@@ -171,6 +175,10 @@ final class EdgesOfTalks {
         Check.due("the first one is empty", false, () -> echo(0, 1, "aBaBdB"));
         Check.due("the second one is empty", false, () -> echo(0, 1, "aBaBaD"));
         Check.due("both are", false, () -> echo(2, 2, "aBaB"));
+        Formatseer zeros = talk(Check.seerOf(600, Check.row(0), Check.row(0, 0)), "aBaB");
+        Check.due("0 and no byte", false, () -> zeros.isEcho(0, 2));
+        Check.due("no byte and 0", false, () -> zeros.isEcho(1, 1));
+        Check.due("0 and 0", true, () -> zeros.isEcho(0, 1));
         Check.due("one that is in no pair is", true, () -> echo(0, 1, "aBaBd"));
     }
 
@@ -241,7 +249,8 @@ final class EdgesOfTalks {
     }
 
     private static void rowsOfMessages() {
-        Sentence.of("Each row of messages from the beginning of a session on is a state, none and all of them included.");
+        Sentence.of("Each row of messages from the beginning of a session on is a state, none and all of them"
+                + " included.");
         Check.due("none", 1, () -> states(1));
         Check.due("none, and all of one", 2, () -> states(1, "a"));
         Check.due("none of one session, none of the other ones", 2, () -> states(3, "", "", "a"));
@@ -304,6 +313,8 @@ final class EdgesOfTalks {
     private static void followers() {
         Sentence.of("A symbol can follow a state if it does so in some session, behind a state that is one with it.");
         Check.due("no message at all", false, () -> follows(1));
+        Check.due("nor the sample 0", false, () -> Check.seerOf(600, Check.row(3)).canFollow(0, 1, 0, 3));
+        Check.due("nor no byte", false, () -> Check.seerOf(600, Check.row()).canFollow(0, 1, 0, -1));
         Check.due("at the beginning, as in another session", true, () -> follows(3, "", "c"));
         Check.due("not at the beginning of another session", false, () -> follows(1, "", "ac"));
         Check.due("not behind what is no beginning", false, () -> follows(1, "a", "c"));

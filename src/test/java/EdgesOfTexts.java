@@ -111,7 +111,8 @@ final class EdgesOfTexts {
         Sentence.of("b and a number from 1 to 40: so many bytes.");
         good("b1", "b2", "b39", "b40");
         bad("b", "b0", "b00", "b000", "b41", "b50", "b100", "b999", "bh");
-        Sentence.of("i, a register, =, a number up to 255, and items in ( ): the items if the register is this number.");
+        Sentence.of("i, a register, =, a number up to 255, and items in ( ): the items if the register is this"
+                + " number.");
         good("ni0=0(h)", "ni0=255(h)", "Ni0=1(hh)");
         bad("ni0=256(h)", "ni0=999(h)", "ni0=(h)", "ni0(h)", "ni=1(h)", "ni0=1h", "ni0=1", "i0=1(h)", "ni01(h)");
         Sentence.of("z: bytes other than 0, and a 0 behind them.");
@@ -133,8 +134,13 @@ final class EdgesOfTexts {
     private static void registers() {
         Sentence.of("a register is one of an n or N ahead in the text");
         good("nv0", "Nv0", "nNv0v1", "nnnnnnnnnnv9", "nnnnnnnnnnnnv9", "nhv0", "nr0(n)v1", "ni0=1(n)v1", "nr0(nv1)");
-        bad("v0", "v0n", "nv1", "nv1n", "nNv2", "nnnnnnnnnv9", "r0(h)", "r0(n)", "r0(h)n", "nr1(h)", "nr1(n)", "nr0(v1n)",
-                "nr0(v1)n", "ni1=1(h)", "ni1=1(n)", "hv0", "nr9(h)");
+        bad("v0", "v0n", "nv1", "nv1n", "nNv2", "nnnnnnnnnv9", "r0(h)", "r0(n)", "r0(h)n", "nr1(h)", "nr1(n)",
+                "nr0(v1n)", "nr0(v1)n", "ni1=1(h)", "ni1=1(n)", "hv0", "nr9(h)");
+        Formatseer again = new Formatseer();
+        Check.describe(again, "nnv1");
+        Check.dueThrow("not in the text ahead of this one", IllegalArgumentException.class,
+                () -> Check.describe(again, "v0"));
+        Check.dueThrow("nor the second one", IllegalArgumentException.class, () -> Check.describe(again, "nv1"));
         Sentence.of("these set registers, which are numbered from 0 by the n and N in the text.");
         Formatseer seer = Check.seerOf(600, Check.row(1, 0, 2, 0, 9, 8, 7), Check.row(0, 1, 9), Check.row(1, 0, 9));
         Check.describe(seer, "nNnv2v0v1");
@@ -156,8 +162,8 @@ final class EdgesOfTexts {
     private static void itemsInGroups() {
         Sentence.of("There are one or more items in ( ), too.");
         good("nr0(h)", "nr0(hh)", "ni0=1(h)", "nr0(r0(h))");
-        bad("nr0()", "ni0=1()", "nr0(r0())", "nr0(h)r0()", "nr0()h", "nr0(h", "nr0", "nr0(", "nr0h)", "nr0(h))", "nr0((h))",
-                "nr0(r0(h)", "nr0(())");
+        bad("nr0()", "ni0=1()", "nr0(r0())", "nr0(h)r0()", "nr0()h", "nr0(h", "nr0", "nr0(", "nr0h)", "nr0(h))",
+                "nr0((h))", "nr0(r0(h)", "nr0(())");
     }
 
     private static void describing() {

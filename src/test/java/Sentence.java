@@ -63,7 +63,8 @@ final class Sentence {
             for (String part : PROMISES.get(promise).split("(?=Throws `)")) {
                 String thrown = part.trim();
                 if (thrown.startsWith("Throws `")) {
-                    Check.due("promise " + promise + ", " + thrown, true, () -> QUOTED.contains(promise + ": " + thrown));
+                    Check.due("promise " + promise + ", " + thrown, true,
+                            () -> QUOTED.contains(promise + ": " + thrown));
                 }
             }
         }
