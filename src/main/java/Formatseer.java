@@ -21,14 +21,15 @@ public final class Formatseer {
     private final Comparer comparer = new Comparer();
     private final Samples samples = new Samples(comparer);
     private final Alignment alignment = new Alignment(samples, comparer);
-    private final Seeker seeker = new Seeker(samples);
+    private final Members members = new Members(samples);
+    private final Seeker seeker = new Seeker(members);
     private final Relations claimed = new Relations(MOST_CLAIMS);
     private final Row claimers = new Row(MOST_CLAIMS);
     private final Row buffer = new Row(MOST_SIGNS);
     private final Description[] descriptions = new Description[MOST_DESCRIPTIONS];
     private final Description trial = new Description();
     private final Reader reader = new Reader();
-    private final Finder finder = new Finder(samples, seeker);
+    private final Finder finder = new Finder(members, seeker);
     private final Talks talks = new Talks(samples);
     private final Row firstItems = new Row(MOST_SIGNS);
     private final Row otherItems = new Row(MOST_SIGNS);
@@ -1358,27 +1359,83 @@ public final class Formatseer {
         }
     }
 
+    /** The samples of one class, by rising numbers. */
+    private static final class Members {
+        private final Samples samples;
+        private final Row numbers = new Row(MOST_SAMPLES);
+
+        Members(Samples samples) {
+            this.samples = samples;
+        }
+
+        void gather(int leader) {
+            numbers.empty();
+            for (int sample = 0; sample < samples.size(); sample++) {
+                if (samples.isIn(sample, leader)) {
+                    numbers.push(sample);
+                }
+            }
+        }
+
+        int size() {
+            return numbers.size();
+        }
+
+        /** The bytes of one of them. */
+        Row at(int index) {
+            return samples.bytesOf(numbers.at(index));
+        }
+
+        int shortest() {
+            int shortest = MOST_BYTES;
+            for (int index = 0; index < size(); index++) {
+                shortest = Math.min(shortest, at(index).size());
+            }
+            return shortest;
+        }
+
+        int countBytes() {
+            int bytes = 0;
+            for (int index = 0; index < size(); index++) {
+                bytes += at(index).size();
+            }
+            return bytes;
+        }
+
+        boolean areAsLong() {
+            for (int index = 1; index < size(); index++) {
+                if (at(index).size() != at(0).size()) {
+                    return false;
+                }
+            }
+            return true;
+        }
+
+        boolean areAlikeAt(int place) {
+            for (int index = 1; index < size(); index++) {
+                if (at(index).at(place) != at(0).at(place)) {
+                    return false;
+                }
+            }
+            return true;
+        }
+    }
+
     /** Looks for the relations in the samples of a class. */
     private static final class Seeker {
         /** At a place at most three lengths, three sums, a key, a count and an offset can hold. */
         private static final int MOST_RELATIONS = 9 * MOST_BYTES;
 
-        private final Samples samples;
-        private final Row members = new Row(MOST_SAMPLES);
+        private final Members members;
         private final Relations found = new Relations(MOST_RELATIONS);
 
-        Seeker(Samples samples) {
-            this.samples = samples;
+        Seeker(Members members) {
+            this.members = members;
         }
 
         Relations seek(int leader) {
             found.empty();
-            members.empty();
-            for (int sample = 0; sample < samples.size(); sample++) {
-                if (samples.isIn(sample, leader)) {
-                    members.push(sample);
-                }
-            }
+            members.gather(leader);
             if (members.size() >= 2) {
                 seekLengths();
                 seekSums('+');
@@ -1391,44 +1448,14 @@ public final class Formatseer {
             return found;
         }
 
-        private Row member(int index) {
-            return samples.bytesOf(members.at(index));
-        }
-
-        private int shortest() {
-            int shortest = MOST_BYTES;
-            for (int index = 0; index < members.size(); index++) {
-                shortest = Math.min(shortest, member(index).size());
-            }
-            return shortest;
-        }
-
-        private boolean areLengthsAlike() {
-            for (int index = 1; index < members.size(); index++) {
-                if (member(index).size() != member(0).size()) {
-                    return false;
-                }
-            }
-            return true;
-        }
-
-        private boolean areAlikeAt(int place) {
-            for (int index = 1; index < members.size(); index++) {
-                if (member(index).at(place) != member(0).at(place)) {
-                    return false;
-                }
-            }
-            return true;
-        }
-
         private void seekLengths() {
-            if (areLengthsAlike()) {
+            if (members.areAsLong()) {
                 return;
             }
-            int end = shortest();
+            int end = members.shortest();
             for (int place = 0; place < end; place++) {
                 for (int form = 1; form <= 3; form++) {
-                    int rest = restOf(member(0), place, form);
+                    int rest = restOf(members.at(0), place, form);
                     if ((form == 1 || place + 1 < end) && rest >= 0 && isRestOfAll(place, form, rest)) {
                         found.push('l', place, form, rest);
                     }
@@ -1448,7 +1475,7 @@ public final class Formatseer {
 
         private boolean isRestOfAll(int place, int form, int rest) {
             for (int index = 1; index < members.size(); index++) {
-                if (restOf(member(index), place, form) != rest) {
+                if (restOf(members.at(index), place, form) != rest) {
                     return false;
                 }
             }
@@ -1456,7 +1483,7 @@ public final class Formatseer {
         }
 
         private void seekSums(char kind) {
-            int end = shortest() - 1;
+            int end = members.shortest() - 1;
             for (int place = 0; place < end; place++) {
                 if (areAllSummed(kind, place)) {
                     found.push(kind, place, 0, 0);
@@ -1466,7 +1493,7 @@ public final class Formatseer {
 
         private boolean areAllSummed(char kind, int place) {
             for (int index = 0; index < members.size(); index++) {
-                Row bytes = member(index);
+                Row bytes = members.at(index);
                 if (bytes.last() != summed(kind, bytes, place)) {
                     return false;
                 }
@@ -1483,10 +1510,10 @@ public final class Formatseer {
         }
 
         private void seekKeys() {
-            if (areLengthsAlike()) {
+            if (members.areAsLong()) {
                 return;
             }
-            int end = shortest();
+            int end = members.shortest();
             for (int place = 0; place < end; place++) {
                 if (isKey(place)) {
                     found.push('k', place, 0, 0);
@@ -1497,8 +1524,8 @@ public final class Formatseer {
         private boolean isKey(int place) {
             for (int first = 0; first < members.size(); first++) {
                 for (int second = 0; second < first; second++) {
-                    boolean isSameByte = member(first).at(place) == member(second).at(place);
-                    boolean isSameLength = member(first).size() == member(second).size();
+                    boolean isSameByte = members.at(first).at(place) == members.at(second).at(place);
+                    boolean isSameLength = members.at(first).size() == members.at(second).size();
                     if (isSameByte != isSameLength) {
                         return false;
                     }
@@ -1508,10 +1535,10 @@ public final class Formatseer {
         }
 
         private void seekCounts() {
-            int end = shortest();
+            int end = members.shortest();
             for (int place = 0; place < end; place++) {
-                for (int width = 2; width <= 8 && !areAlikeAt(place); width++) {
-                    int rest = restBehind(member(0), place, width);
+                for (int width = 2; width <= 8 && !members.areAlikeAt(place); width++) {
+                    int rest = restBehind(members.at(0), place, width);
                     if (rest >= 0 && rest <= 3 && isCountOfAll(place, width, rest)) {
                         found.push('r', place, width, rest);
                     }
@@ -1526,7 +1553,7 @@ public final class Formatseer {
 
         private boolean isCountOfAll(int place, int width, int rest) {
             for (int index = 1; index < members.size(); index++) {
-                if (restBehind(member(index), place, width) != rest) {
+                if (restBehind(members.at(index), place, width) != rest) {
                     return false;
                 }
             }
@@ -1534,10 +1561,10 @@ public final class Formatseer {
         }
 
         private void seekOffsets() {
-            int end = shortest();
+            int end = members.shortest();
             for (int place = 0; place < end; place++) {
-                int target = member(0).at(member(0).at(place));
-                if (!areAlikeAt(place) && doAllLeadTo(place, target)) {
+                int target = members.at(0).at(members.at(0).at(place));
+                if (!members.areAlikeAt(place) && doAllLeadTo(place, target)) {
                     found.push('o', place, target, 0);
                 }
             }
@@ -1545,7 +1572,7 @@ public final class Formatseer {
 
         private boolean doAllLeadTo(int place, int target) {
             for (int index = 0; index < members.size(); index++) {
-                Row bytes = member(index);
+                Row bytes = members.at(index);
                 if (!bytes.has(bytes.at(place)) || bytes.at(bytes.at(place)) != target) {
                     return false;
                 }
@@ -1962,20 +1989,19 @@ public final class Formatseer {
 
     /** Makes descriptions from a class, and keeps the cheapest one. */
     private static final class Finder {
-        /** Five signs more than c and a number for each place. */
-        private static final int MOST_DRAFTED = 4 * MOST_BYTES + 5;
+        /** c and a number for each place, and n, v0 and s or x behind them. */
+        private static final int MOST_DRAFTED = 4 * MOST_BYTES + 4;
 
-        private final Samples samples;
+        private final Members members;
         private final Seeker seeker;
-        private final Row members = new Row(MOST_SAMPLES);
         private final Row draft = new Row(MOST_DRAFTED);
         private final Row chosen = new Row(MOST_SIGNS);
         private int holes;
         private boolean hasChosen;
         private int least;
 
-        Finder(Samples samples, Seeker seeker) {
-            this.samples = samples;
+        Finder(Members members, Seeker seeker) {
+            this.members = members;
             this.seeker = seeker;
         }
 
@@ -1986,38 +2012,16 @@ public final class Formatseer {
 
         boolean finds(int leader) {
             hasChosen = false;
-            members.empty();
-            for (int sample = 0; sample < samples.size(); sample++) {
-                if (samples.isIn(sample, leader)) {
-                    members.push(sample);
-                }
-            }
+            members.gather(leader);
             tryFixed();
             tryLengths(seeker.seek(leader));
             tryText();
             return hasChosen;
         }
 
-        private Row member(int index) {
-            return samples.bytesOf(members.at(index));
-        }
-
-        private int countBytes() {
-            int bytes = 0;
-            for (int index = 0; index < members.size(); index++) {
-                bytes += member(index).size();
-            }
-            return bytes;
-        }
-
         private void tryFixed() {
-            int length = member(0).size();
-            for (int index = 1; index < members.size(); index++) {
-                if (member(index).size() != length) {
-                    return;
-                }
-            }
-            if (length > 0) {
+            int length = members.at(0).size();
+            if (length > 0 && members.areAsLong()) {
                 draftPlaces(length);
                 weigh(holes * members.size());
             }
@@ -2038,22 +2042,22 @@ public final class Formatseer {
                     if (more == 2) {
                         draft.push(isSummed ? 's' : 'x');
                     }
-                    // All bytes but those of c, s and x: the place's own one is the 1 more.
-                    weigh(countBytes() - (place - holes + more - 1) * members.size());
+                    // What costs is all bytes but those of c, and but the one of s or x if the rest is 2 more.
+                    weigh(members.countBytes() - (place - holes + more - 1) * members.size());
                 }
             }
         }
 
         private void tryText() {
             for (int index = 0; index < members.size(); index++) {
-                Row bytes = member(index);
+                Row bytes = members.at(index);
                 if (bytes.size() == 0 || bytes.placeOf(0, 0) != bytes.size() - 1) {
                     return;
                 }
             }
             draft.empty();
             draft.push('z');
-            weigh(countBytes());
+            weigh(members.countBytes());
         }
 
         /** Drafts c or h for the places ahead of the end, and counts the h. */
@@ -2061,23 +2065,14 @@ public final class Formatseer {
             draft.empty();
             holes = 0;
             for (int place = 0; place < end; place++) {
-                if (areAlikeAt(place)) {
+                if (members.areAlikeAt(place)) {
                     draft.push('c');
-                    draftNumber(member(0).at(place));
+                    draftNumber(members.at(0).at(place));
                 } else {
                     draft.push('h');
                     holes++;
                 }
             }
-        }
-
-        private boolean areAlikeAt(int place) {
-            for (int index = 1; index < members.size(); index++) {
-                if (member(index).at(place) != member(0).at(place)) {
-                    return false;
-                }
-            }
-            return true;
         }
 
         private void draftNumber(int number) {

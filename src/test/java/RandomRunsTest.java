@@ -15,6 +15,8 @@ public final class RandomRunsTest {
     /** Calls of which each answer is counted, to see that the runs come to all of them. */
     private static final Set<String> TOLD = Set.of("judge", "kindOf", "cover", "isEcho", "isCounter", "canFollow",
             "stands", "isOutlier", "differ", "states", "best", "question", "isSound", "read", "signAt");
+    private static final String[] SHORT = {"h", "z", "nv0", "nv0s", "nv0x", "b3", "nr0(h)", "ni0=2(hh)", "hhhh", "Nb1",
+        "nr1("};
     private static final int[] ODD = {Integer.MIN_VALUE, -2, -1, 256, 1000, Integer.MAX_VALUE};
 
     private final Random random;
@@ -116,9 +118,12 @@ public final class RandomRunsTest {
         if (luck(70)) {
             call(seen, "setLimit", 100 + draw(700));
         }
-        switch (draw(5)) {
+        switch (draw(6)) {
             case 0:
                 goFamily(seen);
+                break;
+            case 3:
+                goOrders(seen);
                 break;
             case 1:
                 goDescription(seen);
@@ -214,6 +219,56 @@ public final class RandomRunsTest {
             call(seen, "isCounter", draw(3));
             call(seen, "states", 1 + draw(3));
             call(seen, "canFollow", draw(4), 1 + draw(3), draw(2), draw(3) - 1);
+        }
+    }
+
+    /** Few samples and short texts, which change between finding, claiming, answering and sending. */
+    private void goOrders(Map<String, Integer> seen) throws Exception {
+        call(seen, "setLimit", 1 + draw(400));
+        for (int turn = 0; turn < 3 && sampleCount < 3; turn++) {
+            addFamily(seen);
+        }
+        for (int turn = 0; turn < 60; turn++) {
+            int sample = draw(sampleCount);
+            int description = near(descriptionCount);
+            switch (draw(10)) {
+                case 0: call(seen, "setAside", sample, luck(50)); break;
+                case 1: call(seen, "append", sample, draw(9)); break;
+                case 2: call(seen, "find", sample); break;
+                case 3: call(seen, "claim", sample, draw(2)); break;
+                case 4: call(seen, "answer", sample, luck(70)); break;
+                case 5: call(seen, "send", draw(3), draw(2), sample); break;
+                case 6: editTo(seen, description, SHORT[draw(SHORT.length)]); break;
+                case 7: call(seen, "mutant", description, sample, draw(5), draw(9)); break;
+                case 8: call(seen, "setLimit", 1 + draw(600)); break;
+                default: call(seen, "setAside", sample, false); break;
+            }
+            askAgain(seen);
+        }
+    }
+
+    private void editTo(Map<String, Integer> seen, int description, String text) throws Exception {
+        call(seen, "clear");
+        for (char sign : text.toCharArray()) {
+            call(seen, "type", sign);
+        }
+        call(seen, "edit", description);
+    }
+
+    /** What may be another answer than it was before the last change. */
+    private void askAgain(Map<String, Integer> seen) throws Exception {
+        int sample = draw(sampleCount);
+        int description = draw(descriptionCount);
+        switch (draw(9)) {
+            case 0: call(seen, "stands", draw(4)); call(seen, "rests", draw(4)); break;
+            case 1: call(seen, "isPossible", description); call(seen, "question"); break;
+            case 2: call(seen, "isSound"); call(seen, "best"); break;
+            case 3: call(seen, "cost", description); call(seen, "cover", description); break;
+            case 4: call(seen, "states", 1 + draw(3)); break;
+            case 5: call(seen, "canFollow", draw(3), 1 + draw(3), draw(2), draw(9)); break;
+            case 6: call(seen, "isEcho", draw(3), draw(3)); call(seen, "isCounter", draw(3)); break;
+            case 7: call(seen, "relations", sample); call(seen, "judge", sample, draw(6)); break;
+            default: call(seen, "read", description, sample); call(seen, "classOf", sample); break;
         }
     }
 
